@@ -39,9 +39,9 @@ public final class PatternWorkshop {
     private final Row found = new Row(2 * CAPTURE_ROOM + 2);
     private final Reader reader = new Reader();
     private final Printer printer = new Printer();
-    private final GoingBack goingBack;
-    private final Parallel parallel;
-    private final Sets sets;
+    private final GoingBack goingBack = new GoingBack();
+    private final Parallel parallel = new Parallel();
+    private final Sets sets = new Sets();
     private int faultPlace = NONE;
     private int latestFinding;
     private int latestSteps;
@@ -50,14 +50,11 @@ public final class PatternWorkshop {
 
     public PatternWorkshop() {
         for (int i = 0; i < patterns.length; i++) {
-            patterns[i] = new Tree();
+            patterns[i] = new Tree(NODE_ROOM, RANGE_ROOM);
         }
         for (int i = 0; i < subjects.length; i++) {
             subjects[i] = new Row(SUBJECT_ROOM);
         }
-        goingBack = new GoingBack(patterns[0], subjects[0]);
-        parallel = new Parallel(patterns[0], subjects[0]);
-        sets = new Sets(patterns[0]);
     }
 
     // ---- patterns
@@ -271,7 +268,8 @@ public final class PatternWorkshop {
         if (openSlot == NONE) {
             return STATE;
         }
-        int answer = goFurther(steps);
+        int answer = goingBack.proceed(steps, spans);
+        latestSteps = goingBack.steps;
         if (answer != MORE) {
             endSearch();
         }
@@ -395,7 +393,7 @@ public final class PatternWorkshop {
             return OUTSIDE;
         }
         int refusal = makeTables(tree, null);
-        return refusal != 0 ? refusal : sets.one.longestBeginning(row, from);
+        return refusal != 0 ? refusal : sets.longestBeginning(row, from);
     }
 
     public int steps() {
@@ -540,7 +538,9 @@ public final class PatternWorkshop {
     }
 
     private static boolean isLetter(int c) {
-        return isSmall(c) || c >= 'A' && c <= 'Z';
+        // The two cases of a letter differ in this bit alone.
+        int small = c | 32;
+        return small >= 'a' && small <= 'z';
     }
 
     private static boolean isDigit(int c) {
@@ -548,7 +548,8 @@ public final class PatternWorkshop {
     }
 
     private static boolean isWordSign(int c) {
-        return isLetter(c) || isDigit(c) || c == '_';
+        int small = c | 32;
+        return small >= 'a' && small <= 'z' || c >= '0' && c <= '9' || c == '_';
     }
 
     private static boolean isPlain(int c) {
@@ -562,7 +563,8 @@ public final class PatternWorkshop {
     }
 
     private static int otherCase(int c) {
-        return isLetter(c) ? c ^ 32 : c;
+        int small = c | 32;
+        return small >= 'a' && small <= 'z' ? c ^ 32 : c;
     }
 
     private static int byteOf(long w, int i) {
@@ -671,30 +673,25 @@ public final class PatternWorkshop {
 
     private int search(Tree tree, Row subject, int from, int machine, int steps) {
         endSearch();
-        if (machine == GOING_BACK) {
-            goingBack.begin(tree, subject, from, false);
-            return goFurther(steps);
-        }
         latestSteps = 0;
-        return parallel.run(tree, subject, from, false, spans) ? 1 : 0;
+        if (machine != GOING_BACK) {
+            return parallel.run(tree, subject, from, false, spans) ? 1 : 0;
+        }
+        goingBack.begin(tree, subject, from, false);
+        int answer = goingBack.proceed(steps, spans);
+        latestSteps = goingBack.steps;
+        return answer;
     }
 
     private int searchWhole(Tree tree, Row subject, int machine) {
         endSearch();
-        if (machine == GOING_BACK) {
-            goingBack.begin(tree, subject, 0, true);
-            return goFurther(STEP_ROOM);
-        }
         latestSteps = 0;
-        return parallel.run(tree, subject, 0, true, spans) ? 1 : 0;
-    }
-
-    private int goFurther(int steps) {
-        int answer = goingBack.proceed(steps);
-        latestSteps = goingBack.steps;
-        if (answer == 1) {
-            goingBack.tell(spans);
+        if (machine != GOING_BACK) {
+            return parallel.run(tree, subject, 0, true, spans) ? 1 : 0;
         }
+        goingBack.begin(tree, subject, 0, true);
+        int answer = goingBack.proceed(STEP_ROOM, spans);
+        latestSteps = goingBack.steps;
         return answer;
     }
 
@@ -894,22 +891,42 @@ public final class PatternWorkshop {
         int count;
         int captures;
         private int ranges;
-        private final int[] sort = new int[NODE_ROOM];
-        private final int[] holder = new int[NODE_ROOM];
-        private final int[] end = new int[NODE_ROOM];
-        private final int[] before = new int[NODE_ROOM];
-        private final int[] last = new int[NODE_ROOM];
-        private final int[] parts = new int[NODE_ROOM];
-        private final int[] value = new int[NODE_ROOM];
-        private final int[] low = new int[NODE_ROOM];
-        private final int[] high = new int[NODE_ROOM];
-        private final int[] size = new int[NODE_ROOM];
-        private final int[] positions = new int[NODE_ROOM];
-        private final boolean[] mayBeEmpty = new boolean[NODE_ROOM];
-        private final boolean[] withinCase = new boolean[NODE_ROOM];
-        private final boolean[] marked = new boolean[NODE_ROOM];
-        private final int[] rangeBegin = new int[RANGE_ROOM];
-        private final int[] rangeEnd = new int[RANGE_ROOM];
+        private final int[] sort;
+        private final int[] holder;
+        private final int[] end;
+        private final int[] before;
+        private final int[] last;
+        private final int[] parts;
+        private final int[] value;
+        private final int[] low;
+        private final int[] high;
+        private final int[] size;
+        private final int[] positions;
+        private final boolean[] mayBeEmpty;
+        private final boolean[] withinCase;
+        private final boolean[] marked;
+        private final int[] rangeBegin;
+        private final int[] rangeEnd;
+
+        Tree(int nodeRoom, int rangeRoom) {
+            int nodes = Math.max(nodeRoom, 0);
+            sort = new int[nodes];
+            holder = new int[nodes];
+            end = new int[nodes];
+            before = new int[nodes];
+            last = new int[nodes];
+            parts = new int[nodes];
+            value = new int[nodes];
+            low = new int[nodes];
+            high = new int[nodes];
+            size = new int[nodes];
+            positions = new int[nodes];
+            mayBeEmpty = new boolean[nodes];
+            withinCase = new boolean[nodes];
+            marked = new boolean[nodes];
+            rangeBegin = new int[Math.max(rangeRoom, 0)];
+            rangeEnd = new int[Math.max(rangeRoom, 0)];
+        }
 
         void reset() {
             there = false;
@@ -918,61 +935,66 @@ public final class PatternWorkshop {
             ranges = 0;
         }
 
+        /** There are never more nodes than room for them: what is a node is an index. */
         boolean has(int k) {
-            return k >= 0 && k < count && k < NODE_ROOM;
+            return k >= 0 && k < count;
         }
 
         int sortOf(int k) {
-            return has(k) ? sort[k] : ROW;
+            return k >= 0 && k < count ? sort[k] : ROW;
         }
 
         int holderOf(int k) {
-            return has(k) ? holder[k] : NONE;
+            return k >= 0 && k < count ? holder[k] : NONE;
         }
 
         int valueOf(int k) {
-            return has(k) ? value[k] : 0;
+            return k >= 0 && k < count ? value[k] : 0;
         }
 
         int lowOf(int k) {
-            return has(k) ? low[k] : 0;
+            return k >= 0 && k < count ? low[k] : 0;
         }
 
         int highOf(int k) {
-            return has(k) ? high[k] : 0;
-        }
-
-        int endOf(int k) {
-            return has(k) ? end[k] : count;
+            return k >= 0 && k < count ? high[k] : 0;
         }
 
         int lastOf(int k) {
-            return has(k) ? last[k] : NONE;
+            return k >= 0 && k < count ? last[k] : NONE;
         }
 
         int beforeOf(int k) {
-            return has(k) ? before[k] : NONE;
+            return k >= 0 && k < count ? before[k] : NONE;
         }
 
+        int endOf(int k) {
+            return k >= 0 && k < count ? end[k] : count;
+        }
+
+        /** The first part stands right behind its holder, the next one behind all of a part. */
         int firstOf(int k) {
-            return endOf(k) > k + 1 ? k + 1 : NONE;
+            return k >= 0 && k < count && end[k] > k + 1 ? k + 1 : NONE;
         }
 
         int nextOf(int k) {
-            int above = holderOf(k);
-            return above != NONE && endOf(k) < endOf(above) ? endOf(k) : NONE;
+            int above = k >= 0 && k < count ? holder[k] : NONE;
+            return above >= 0 && above < count && end[k] < end[above] ? end[k] : NONE;
         }
 
         int partsOf(int k) {
-            return sortOf(k) == SET ? highOf(k) : has(k) ? parts[k] : 0;
+            if (k < 0 || k >= count) {
+                return 0;
+            }
+            return sort[k] == SET ? high[k] : parts[k];
         }
 
         boolean isWithinCase(int k) {
-            return has(k) && withinCase[k];
+            return k >= 0 && k < count && withinCase[k];
         }
 
         boolean isMarked(int k) {
-            return has(k) && marked[k];
+            return k >= 0 && k < count && marked[k];
         }
 
         boolean isEndless(int k) {
@@ -981,7 +1003,7 @@ public final class PatternWorkshop {
 
         /** A new node behind all others and behind the parts that its holder has so far. */
         int add(int itsSort, int itsValue, int itsLow, int itsHigh, int itsHolder) {
-            if (count >= NODE_ROOM) {
+            if (count >= sort.length) {
                 return NONE;
             }
             int k = count;
@@ -1007,14 +1029,12 @@ public final class PatternWorkshop {
             }
         }
 
-        /** Adds a range behind all others: where it is. */
-        int addRange(int begin, int itsEnd) {
-            if (ranges < RANGE_ROOM) {
+        void addRange(int begin, int itsEnd) {
+            if (ranges < rangeBegin.length && ranges < rangeEnd.length) {
                 rangeBegin[ranges] = begin;
                 rangeEnd[ranges] = itsEnd;
                 ranges++;
             }
-            return ranges - 1;
         }
 
         int rangeCount() {
@@ -1023,12 +1043,12 @@ public final class PatternWorkshop {
 
         int partBegin(int k, int i) {
             int at = lowOf(k) + i;
-            return at >= 0 && at < RANGE_ROOM ? rangeBegin[at] : 0;
+            return at >= 0 && at < ranges ? rangeBegin[at] : 0;
         }
 
         int partEnd(int k, int i) {
             int at = lowOf(k) + i;
-            return at >= 0 && at < RANGE_ROOM ? rangeEnd[at] : 0;
+            return at >= 0 && at < ranges ? rangeEnd[at] : 0;
         }
 
         /** Works out what the nodes are by their parts, which stand behind them. */
@@ -1163,8 +1183,11 @@ public final class PatternWorkshop {
         }
 
         private boolean hasInParts(int k, int c) {
-            for (int i = 0; i < partsOf(k); i++) {
-                if (partBegin(k, i) <= c && c <= partEnd(k, i)) {
+            if (k < 0 || k >= count) {
+                return false;
+            }
+            for (int i = low[k]; i >= 0 && i < low[k] + high[k] && i < ranges; i++) {
+                if (rangeBegin[i] <= c && c <= rangeEnd[i]) {
                     return true;
                 }
             }
@@ -1351,7 +1374,7 @@ public final class PatternWorkshop {
         private final Group[] groups = new Group[GROUP_ROOM + 1];
         private int depth;
         private Row text = new Row(0);
-        private Tree tree = new Tree();
+        private Tree tree = new Tree(NODE_ROOM, RANGE_ROOM);
         private int at;
         private int items;
         private final int[] captureOfName = new int[26];
@@ -1383,7 +1406,8 @@ public final class PatternWorkshop {
             if (fault != 0) {
                 return false;
             }
-            lay(closeChoice(openGroup()), NONE, 0);
+            closeRow(openGroup());
+            lay(choiceOf(openGroup()), NONE, 0);
             tree.measure();
             return true;
         }
@@ -1510,8 +1534,9 @@ public final class PatternWorkshop {
             if (group.pending == NONE) {
                 return;
             }
-            chain(group.rowLast, group.pending);
-            if (group.rowCount == 0) {
+            if (group.rowLast >= 0 && group.rowLast < NODE_ROOM) {
+                nextPart[group.rowLast] = group.pending;
+            } else {
                 group.rowFirst = group.pending;
             }
             group.rowLast = group.pending;
@@ -1519,17 +1544,12 @@ public final class PatternWorkshop {
             group.pending = NONE;
         }
 
-        private void chain(int last, int made) {
-            if (last >= 0 && last < NODE_ROOM) {
-                nextPart[last] = made;
-            }
-        }
-
         private void closeRow(Group group) {
             addPending(group);
             int row = group.rowCount == 1 ? group.rowFirst : makeRound(ROW, 0, 0, 0, group.rowFirst);
-            chain(group.choiceLast, row);
-            if (group.choiceCount == 0) {
+            if (group.choiceLast >= 0 && group.choiceLast < NODE_ROOM) {
+                nextPart[group.choiceLast] = row;
+            } else {
                 group.choiceFirst = row;
             }
             group.choiceLast = row;
@@ -1537,8 +1557,7 @@ public final class PatternWorkshop {
             group.beginRow();
         }
 
-        private int closeChoice(Group group) {
-            closeRow(group);
+        private int choiceOf(Group group) {
             return group.choiceCount == 1 ? group.choiceFirst : makeRound(CHOICE, 0, 0, 0, group.choiceFirst);
         }
 
@@ -1548,7 +1567,8 @@ public final class PatternWorkshop {
                 return;
             }
             Group group = openGroup();
-            int made = closeChoice(group);
+            closeRow(group);
+            int made = choiceOf(group);
             if (group.sort != NONE) {
                 made = makeRound(group.sort, group.value, group.name, 0, made);
             }
@@ -1776,7 +1796,7 @@ public final class PatternWorkshop {
         private int readHex() {
             int code = 0;
             for (int i = 0; i < 4; i++) {
-                int c = here();
+                int c = text.at(at);
                 if (isDigit(c)) {
                     code = code * 16 + c - '0';
                 } else if (c >= 'a' && c <= 'f') {
@@ -2111,7 +2131,7 @@ public final class PatternWorkshop {
      * so that it can stand still ahead of any step and go on later.
      */
     private static final class GoingBack {
-        private static final int ENTER = 0, LEAVE = 1, FAIL = 2, TURN = 3, TRY = 4;
+        private static final int ENTER = 0, LEAVE = 1, FAIL = 2, COME = 3, TURN = 4, TRY = 5;
         private static final int RUNNING = 0, HAS_FOUND = 1, HAS_NOT = 2, STANDING = 3;
         private static final int NEXT_ROW = 0, LOOP_ENDS = 1, LOOP_TURNS = 2, LOOK_AGAIN = 3;
         private static final int CAPTURE_CELLS = NODE_ROOM, PLACES = 128, CELL = 1 << 16, KINDS = 4;
@@ -2121,8 +2141,8 @@ public final class PatternWorkshop {
         private static final int MOVE_ROOM = 1 << 30;
 
         int steps;
-        private Tree tree;
-        private Row subject;
+        private Tree tree = new Tree(0, 0);
+        private Row subject = new Row(0);
         private boolean wholeOnly;
         private int start;
         private int mode;
@@ -2140,11 +2160,6 @@ public final class PatternWorkshop {
         private int choiceCount;
         private int[] trail = new int[FIRST_KEEP];
         private int trailCount;
-
-        GoingBack(Tree someTree, Row someSubject) {
-            tree = someTree;
-            subject = someSubject;
-        }
 
         void begin(Tree itsTree, Row itsSubject, int itsFrom, boolean toTheEnd) {
             tree = itsTree;
@@ -2164,46 +2179,49 @@ public final class PatternWorkshop {
             Arrays.fill(cells, 0);
         }
 
-        /** Goes on for so many steps: 1, 0, MORE or SPENT. */
-        int proceed(int more) {
+        /** Goes on for so many steps: 1, with the spans of what was found, 0, MORE or SPENT. */
+        int proceed(int more, Row spans) {
             limit = Math.min(STEP_ROOM, steps + more);
             verdict = RUNNING;
             for (int i = 0; i < MOVE_ROOM && verdict == RUNNING; i++) {
-                move();
+                switch (mode) {
+                    case ENTER:
+                        enter();
+                        break;
+                    case LEAVE:
+                        leave();
+                        break;
+                    case COME:
+                        comeToLoop();
+                        break;
+                    case TURN:
+                        turn();
+                        break;
+                    case TRY:
+                        tryFrom();
+                        break;
+                    default:
+                        goBack();
+                        break;
+                }
             }
             if (verdict == STANDING) {
                 return steps >= STEP_ROOM ? SPENT : MORE;
             }
-            return verdict == HAS_FOUND ? 1 : 0;
+            if (verdict != HAS_FOUND) {
+                return 0;
+            }
+            tell(spans);
+            return 1;
         }
 
-        void tell(Row spans) {
+        private void tell(Row spans) {
             spans.empty();
             spans.add(start);
             spans.add(place);
             for (int capture = 1; capture <= tree.captures; capture++) {
                 spans.add(captureBegin(capture));
                 spans.add(captureEnd(capture));
-            }
-        }
-
-        private void move() {
-            switch (mode) {
-                case ENTER:
-                    enter();
-                    break;
-                case LEAVE:
-                    leave();
-                    break;
-                case TURN:
-                    turn();
-                    break;
-                case TRY:
-                    tryFrom();
-                    break;
-                default:
-                    goBack();
-                    break;
             }
         }
 
@@ -2218,9 +2236,19 @@ public final class PatternWorkshop {
 
         private void enter() {
             switch (tree.sortOf(node)) {
-                case SIGN: case ANY: case SET: case EDGE: case BACK:
+                case SIGN: case ANY: case SET:
                     if (step()) {
-                        ask();
+                        askSign();
+                    }
+                    break;
+                case EDGE:
+                    if (step()) {
+                        askEdge();
+                    }
+                    break;
+                case BACK:
+                    if (step()) {
+                        askBack();
                     }
                     break;
                 case CHOICE:
@@ -2256,41 +2284,29 @@ public final class PatternWorkshop {
             }
         }
 
-        private void ask() {
-            int end = endOfLeaf();
-            if (end == NONE) {
-                mode = FAIL;
-            } else {
-                place = end;
-                mode = LEAVE;
-            }
+        private void askSign() {
+            boolean taken = place < subject.count && tree.takes(node, subject.at(place));
+            place += taken ? 1 : 0;
+            mode = taken ? LEAVE : FAIL;
         }
 
-        private int endOfLeaf() {
-            switch (tree.sortOf(node)) {
-                case EDGE:
-                    return edgeHolds(tree.valueOf(node), subject, place) ? place : NONE;
-                case BACK:
-                    return endOfBack(tree.valueOf(node));
-                default:
-                    return place < subject.count && tree.takes(node, subject.at(place)) ? place + 1 : NONE;
-            }
+        private void askEdge() {
+            mode = edgeHolds(tree.valueOf(node), subject, place) ? LEAVE : FAIL;
         }
 
-        private int endOfBack(int capture) {
+        private void askBack() {
+            int capture = tree.valueOf(node);
             int begin = captureBegin(capture);
             int length = captureEnd(capture) - begin;
-            if (begin == NONE || place + length > subject.count) {
-                return NONE;
-            }
-            for (int i = 0; i < length; i++) {
+            mode = begin == NONE || place + length > subject.count ? FAIL : LEAVE;
+            for (int i = 0; i < length && mode == LEAVE; i++) {
                 int c = subject.at(place + i);
                 int due = subject.at(begin + i);
                 if (c != due && !(tree.isWithinCase(node) && otherCase(c) == due)) {
-                    return NONE;
+                    mode = FAIL;
                 }
             }
-            return place + length;
+            place += mode == LEAVE ? length : 0;
         }
 
         private void enterRow(int row) {
@@ -2310,7 +2326,7 @@ public final class PatternWorkshop {
                 markBase();
             }
             setCell(node, 0);
-            comeToLoop();
+            mode = COME;
         }
 
         private void comeToLoop() {
@@ -2340,11 +2356,7 @@ public final class PatternWorkshop {
         private void endTurn() {
             int turns = cell(node) / PLACES;
             int began = cell(node) % PLACES;
-            if (turns > tree.lowOf(node) && place == began) {
-                mode = FAIL;
-            } else {
-                comeToLoop();
-            }
+            mode = turns > tree.lowOf(node) && place == began ? FAIL : COME;
         }
 
         private void endLoop() {
@@ -2552,53 +2564,49 @@ public final class PatternWorkshop {
 
     /** A tree with each copy of a loop's node apart, as instructions that each know the next one. */
     private static final class Program {
-        static final int TAKE = 0, ASK = 1, OPEN = 2, CLOSE = 3, SPLIT = 4, END = 5;
+        static final int TAKE = 0, ASK = 1, OPEN = 2, CLOSE = 3, SPLIT = 4, AGAIN = 5, END = 6;
 
         int start;
         int count;
-        private Tree tree;
+        private Tree tree = new Tree(0, 0);
         private final int[] kinds = new int[PROGRAM_ROOM];
         private final int[] subjects = new int[PROGRAM_ROOM];
         private final int[] nexts = new int[PROGRAM_ROOM];
         private final int[] others = new int[PROGRAM_ROOM];
 
-        Program(Tree someTree) {
-            tree = someTree;
-        }
-
         void write(Tree itsTree) {
             tree = itsTree;
             count = 0;
-            start = build(0, add(END, NONE, NONE, NONE), 0);
+            start = build(0, add(END, NONE, NONE, NONE), 0, 0);
         }
 
         boolean has(int pc) {
-            return pc >= 0 && pc < count && pc < PROGRAM_ROOM;
+            return pc >= 0 && pc < count;
         }
 
         int kindOf(int pc) {
-            return has(pc) ? kinds[pc] : END;
+            return pc >= 0 && pc < count ? kinds[pc] : END;
         }
 
-        /** The node of TAKE and ASK, the capture of OPEN and CLOSE. */
+        /** The node of a TAKE, which edge of an ASK, the capture of OPEN and CLOSE. */
         int subjectOf(int pc) {
-            return has(pc) ? subjects[pc] : NONE;
+            return pc >= 0 && pc < count ? subjects[pc] : NONE;
         }
 
         int nextOf(int pc) {
-            return has(pc) ? nexts[pc] : NONE;
+            return pc >= 0 && pc < count ? nexts[pc] : NONE;
         }
 
+        /**
+         * Where else a SPLIT goes; within how many endless loops a TAKE stands; the how manieth of them
+         * an AGAIN ends a turn of.
+         */
         int otherOf(int pc) {
-            return has(pc) ? others[pc] : NONE;
+            return pc >= 0 && pc < count ? others[pc] : NONE;
         }
 
         boolean takes(int pc, int c) {
             return tree.takes(subjectOf(pc), c);
-        }
-
-        boolean asksFor(int pc, Row subject, int place) {
-            return edgeHolds(tree.valueOf(subjectOf(pc)), subject, place);
         }
 
         private int add(int kind, int itsSubject, int next, int other) {
@@ -2615,67 +2623,68 @@ public final class PatternWorkshop {
         }
 
         /** Writes a node ahead of what comes next: where it begins. */
-        private int build(int k, int next, int level) {
+        private int build(int k, int next, int loops, int level) {
             if (level > DEPTH_ROOM) {
                 return next;
             }
             switch (tree.sortOf(k)) {
                 case SIGN: case ANY: case SET:
-                    return add(TAKE, k, next, NONE);
+                    return add(TAKE, k, next, loops);
                 case EDGE:
-                    return add(ASK, k, next, NONE);
+                    return add(ASK, tree.valueOf(k), next, NONE);
                 case ROW:
-                    return buildRow(k, next, level);
+                    return buildRow(k, next, loops, level);
                 case CHOICE:
-                    return buildChoice(k, next, level);
+                    return buildChoice(k, next, loops, level);
                 case LOOP:
-                    return buildLoop(k, next, level);
+                    return buildLoop(k, next, loops, level);
                 case CAPTURE:
                     int close = add(CLOSE, tree.valueOf(k), next, NONE);
-                    return add(OPEN, tree.valueOf(k), build(tree.firstOf(k), close, level + 1), NONE);
+                    return add(OPEN, tree.valueOf(k), build(tree.firstOf(k), close, loops, level + 1), NONE);
                 default:
-                    return build(tree.firstOf(k), next, level + 1);
+                    return build(tree.firstOf(k), next, loops, level + 1);
             }
         }
 
-        private int buildRow(int k, int next, int level) {
+        private int buildRow(int k, int next, int loops, int level) {
             int begin = next;
             for (int part = tree.lastOf(k); part != NONE; part = tree.beforeOf(part)) {
-                begin = build(part, begin, level + 1);
+                begin = build(part, begin, loops, level + 1);
             }
             return begin;
         }
 
-        private int buildChoice(int k, int next, int level) {
+        private int buildChoice(int k, int next, int loops, int level) {
             int last = tree.lastOf(k);
-            int begin = build(last, next, level + 1);
+            int begin = build(last, next, loops, level + 1);
             for (int part = tree.beforeOf(last); part != NONE; part = tree.beforeOf(part)) {
-                begin = add(SPLIT, NONE, build(part, next, level + 1), begin);
+                begin = add(SPLIT, NONE, build(part, next, loops, level + 1), begin);
             }
             return begin;
         }
 
-        private int buildLoop(int k, int next, int level) {
+        private int buildLoop(int k, int next, int loops, int level) {
             int part = tree.firstOf(k);
             boolean spare = tree.valueOf(k) == SPARE;
             int begin = next;
-            if (tree.highOf(k) == NONE) {
+            if (tree.isEndless(k)) {
                 begin = add(SPLIT, NONE, NONE, NONE);
-                aim(begin, build(part, begin, level + 1), next, spare);
+                int again = add(AGAIN, NONE, begin, loops + 1);
+                aim(begin, build(part, again, loops + 1, level + 1), next, spare);
             }
             for (int i = tree.highOf(k); i > tree.lowOf(k); i--) {
-                int turn = build(part, begin, level + 1);
+                int turn = build(part, begin, loops, level + 1);
                 begin = add(SPLIT, NONE, NONE, NONE);
                 aim(begin, turn, next, spare);
             }
             for (int i = 0; i < tree.lowOf(k); i++) {
-                begin = build(part, begin, level + 1);
+                begin = build(part, begin, loops, level + 1);
             }
             return begin;
         }
 
         private void aim(int split, int turn, int end, boolean spare) {
-            if (has(split)) {
+            if (split >= 0 && split < count) {
                 nexts[split] = spare ? end : turn;
                 others[split] = spare ? turn : end;
             }
@@ -2684,34 +2693,34 @@ public final class PatternWorkshop {
 
     /**
      * Machine 1: all ways go along at once, the earlier ahead of the later. Of two that come to the same
-     * instruction at one place the later is dropped: whatever it could find, the earlier finds too. So
-     * an empty turn of a loop ends by itself, at the loop that it came from.
+     * instruction at one place the later is dropped, for whatever it could find, the earlier finds too,
+     * if it has moved in as many of the loops round it: a turn that has not moved may not end. A way that
+     * has moved in a loop has moved in those round that loop, so how many tells which.
      */
     private static final class Parallel {
-        private static final int WIDTH = 2 * CAPTURE_ROOM + 2, STACK_ROOM = 3 * PROGRAM_ROOM;
+        private static final int WIDTH = 2 * CAPTURE_ROOM + 2;
+        // 9 groups within one another hold 10 loops, of which a way may have moved in 0 to 10.
+        private static final int MOVED_ROOM = 11, SEEN_ROOM = PROGRAM_ROOM * MOVED_ROOM, STACK_ROOM = 2 * SEEN_ROOM + 2;
         // Only instructions that take a sign wait, and the end: 201 at most.
         private static final int THREAD_ROOM = 256;
 
-        private final Program program;
-        private Row subject;
+        private final Program program = new Program();
+        private Row subject = new Row(0);
         private int width;
+        private final boolean[] edges = new boolean[4];
         private int[] nowAt = new int[THREAD_ROOM];
         private int[] nowCells = new int[THREAD_ROOM * WIDTH];
         private int nowCount;
         private int[] nextAt = new int[THREAD_ROOM];
         private int[] nextCells = new int[THREAD_ROOM * WIDTH];
         private int nextCount;
-        private final int[] seen = new int[PROGRAM_ROOM];
+        private final int[] seen = new int[SEEN_ROOM];
+        private final int[] waits = new int[PROGRAM_ROOM];
         private int stamp;
         private final int[] cells = new int[WIDTH];
         private final int[] stack = new int[STACK_ROOM];
         private final int[] kept = new int[STACK_ROOM];
         private int stackCount;
-
-        Parallel(Tree someTree, Row someSubject) {
-            program = new Program(someTree);
-            subject = someSubject;
-        }
 
         boolean run(Tree tree, Row itsSubject, int from, boolean wholeOnly, Row spans) {
             program.write(tree);
@@ -2724,15 +2733,23 @@ public final class PatternWorkshop {
                 if (!hasFound && (place == from || !wholeOnly)) {
                     Arrays.fill(cells, NONE);
                     cells[0] = place;
-                    spread(program.start, place);
+                    markEdges(place);
+                    spread(program.start, 0, place);
                 }
                 exchangeLists();
                 if (nowCount == 0 && (hasFound || wholeOnly)) {
                     break;
                 }
+                markEdges(place + 1);
                 hasFound |= goAlong(place, wholeOnly, spans);
             }
             return hasFound;
+        }
+
+        private void markEdges(int place) {
+            for (int which = 0; which < edges.length; which++) {
+                edges[which] = edgeHolds(which, subject, place);
+            }
         }
 
         private void exchangeLists() {
@@ -2754,7 +2771,7 @@ public final class PatternWorkshop {
                 System.arraycopy(nowCells, i * WIDTH, cells, 0, WIDTH);
                 if (program.kindOf(pc) != Program.END) {
                     if (place < subject.count && program.takes(pc, subject.at(place))) {
-                        spread(program.nextOf(pc), place + 1);
+                        spread(program.nextOf(pc), program.otherOf(pc), place + 1);
                     }
                 } else if (!wholeOnly || place == subject.count) {
                     cells[1] = place;
@@ -2773,60 +2790,70 @@ public final class PatternWorkshop {
         }
 
         /** Goes on from an instruction without taking a sign, in the order of the ways. */
-        private void spread(int begin, int place) {
+        private void spread(int begin, int moved, int place) {
             stackCount = 0;
-            push(begin, 0);
+            push(begin, moved);
             for (int i = 0; i < STACK_ROOM && stackCount > 0 && stackCount <= STACK_ROOM; i++) {
                 stackCount--;
                 int pc = stack[stackCount];
+                int with = kept[stackCount];
                 if (pc < 0) {
-                    setCell(-1 - pc, kept[stackCount]);
-                } else if (pc < PROGRAM_ROOM && seen[pc] != stamp) {
-                    seen[pc] = stamp;
-                    spreadOne(pc, place);
+                    setCell(-1 - pc, with);
+                } else if (isNew(pc * MOVED_ROOM + with)) {
+                    spreadOne(pc, with, place);
                 }
             }
         }
 
-        private void spreadOne(int pc, int place) {
+        private boolean isNew(int state) {
+            if (state < 0 || state >= SEEN_ROOM || seen[state] == stamp) {
+                return false;
+            }
+            seen[state] = stamp;
+            return true;
+        }
+
+        private void spreadOne(int pc, int moved, int place) {
+            int next = program.nextOf(pc);
             switch (program.kindOf(pc)) {
                 case Program.ASK:
-                    if (program.asksFor(pc, subject, place)) {
-                        push(program.nextOf(pc), 0);
+                    int which = program.subjectOf(pc);
+                    if (which >= 0 && which < edges.length && edges[which]) {
+                        push(next, moved);
                     }
                     break;
                 case Program.SPLIT:
-                    push(program.otherOf(pc), 0);
-                    push(program.nextOf(pc), 0);
+                    push(program.otherOf(pc), moved);
+                    push(next, moved);
                     break;
-                case Program.OPEN:
-                    pushCell(2 * program.subjectOf(pc), place);
-                    push(program.nextOf(pc), 0);
+                case Program.AGAIN:
+                    if (moved >= program.otherOf(pc)) {
+                        push(next, moved - 1);
+                    }
                     break;
-                case Program.CLOSE:
-                    pushCell(2 * program.subjectOf(pc) + 1, place);
-                    push(program.nextOf(pc), 0);
+                case Program.OPEN: case Program.CLOSE:
+                    int cell = 2 * program.subjectOf(pc) + (program.kindOf(pc) == Program.OPEN ? 0 : 1);
+                    // What the cell was comes back for the ways that branched off ahead of here.
+                    push(-1 - cell, cellAt(cell));
+                    setCell(cell, place);
+                    push(next, moved);
                     break;
                 default:
-                    line(pc);
+                    stopAt(pc);
                     break;
             }
         }
 
-        private void push(int pc, int keep) {
+        private void push(int pc, int with) {
             if (stackCount >= 0 && stackCount < STACK_ROOM) {
                 stack[stackCount] = pc;
-                kept[stackCount] = keep;
+                kept[stackCount] = with;
                 stackCount++;
             }
         }
 
-        /** Sets a cell and keeps what it was, for the ways that branched off ahead of it. */
-        private void pushCell(int cell, int place) {
-            if (cell >= 0 && cell < WIDTH) {
-                push(-1 - cell, cells[cell]);
-                cells[cell] = place;
-            }
+        private int cellAt(int cell) {
+            return cell >= 0 && cell < WIDTH ? cells[cell] : NONE;
         }
 
         private void setCell(int cell, int value) {
@@ -2835,8 +2862,11 @@ public final class PatternWorkshop {
             }
         }
 
-        private void line(int pc) {
-            if (nextCount >= 0 && nextCount < THREAD_ROOM) {
+        /** Who takes a sign has then moved in all loops, so here all ways are the same. */
+        private void stopAt(int pc) {
+            boolean known = pc >= 0 && pc < PROGRAM_ROOM && waits[pc] == stamp;
+            if (!known && pc >= 0 && pc < PROGRAM_ROOM && nextCount >= 0 && nextCount < THREAD_ROOM) {
+                waits[pc] = stamp;
                 nextAt[nextCount] = pc;
                 System.arraycopy(cells, 0, nextCells, nextCount * WIDTH, WIDTH);
                 nextCount++;
@@ -2859,12 +2889,12 @@ public final class PatternWorkshop {
         }
 
         int leastOf(int i) {
-            return i >= 0 && i < count && i < CLASS_ROOM ? begins[i] : 0;
+            return i >= 0 && i < count ? begins[i] : 0;
         }
 
         int classOf(int c) {
             int found = 0;
-            for (int i = 1; i < count && i < CLASS_ROOM && begins[i] <= c; i++) {
+            for (int i = 1; i < count && begins[i] <= c; i++) {
                 found = i;
             }
             return found;
@@ -2897,28 +2927,29 @@ public final class PatternWorkshop {
         private void addRange(int begin, int end, boolean withinCase) {
             addBegin(begin);
             addBegin(end + 1);
-            if (withinCase) {
-                addShifted(Math.max(begin, 'A'), Math.min(end, 'Z'), 32);
-                addShifted(Math.max(begin, 'a'), Math.min(end, 'z'), -32);
+            if (withinCase && begin <= 'Z' && end >= 'A') {
+                addBegin(Math.max(begin, 'A') + 32);
+                addBegin(Math.min(end, 'Z') + 33);
             }
-        }
-
-        private void addShifted(int begin, int end, int shift) {
-            if (begin <= end) {
-                addBegin(begin + shift);
-                addBegin(end + 1 + shift);
+            if (withinCase && begin <= 'z' && end >= 'a') {
+                addBegin(Math.max(begin, 'a') - 32);
+                addBegin(Math.min(end, 'z') - 31);
             }
         }
 
         private void addBegin(int c) {
-            int at = classOf(c);
-            if (c > LAST_SIGN || leastOf(at) == c || count >= CLASS_ROOM) {
+            int at = 0;
+            while (at < count && begins[at] < c) {
+                at++;
+            }
+            boolean known = at < count && begins[at] == c;
+            if (known || c > LAST_SIGN || count >= CLASS_ROOM) {
                 return;
             }
-            for (int i = count; i > at + 1; i--) {
+            for (int i = count; i > at; i--) {
                 begins[i] = begins[i - 1];
             }
-            begins[at + 1] = c;
+            begins[at] = c;
             count++;
         }
     }
@@ -2928,14 +2959,15 @@ public final class PatternWorkshop {
         private static final long ENDS = 1L << 63;
 
         int count;
-        private final Program program;
+        private final Program program = new Program();
         private int positionCount;
         private final int[] positionOf = new int[PROGRAM_ROOM];
         private final int[] pcOf = new int[POSITION_ROOM];
         private final long[] follow = new long[POSITION_ROOM];
         private final long[] takers = new long[CLASS_ROOM];
-        private final boolean[] seen = new boolean[PROGRAM_ROOM];
-        private final int[] stack = new int[2 * PROGRAM_ROOM];
+        private final int[] seen = new int[PROGRAM_ROOM];
+        private int stamp;
+        private final int[] stack = new int[PROGRAM_ROOM];
         private int stackCount;
         private int width;
         private final long[] states = new long[STATE_ROOM];
@@ -2944,17 +2976,10 @@ public final class PatternWorkshop {
         private final boolean[] live = new boolean[STATE_ROOM];
         private final int[] groups = new int[STATE_ROOM];
         private final int[] finer = new int[STATE_ROOM];
-        private Alphabet alphabet;
-
-        Table(Tree someTree, Alphabet someAlphabet) {
-            program = new Program(someTree);
-            alphabet = someAlphabet;
-        }
 
         /** Whether the table has no more states than there is room for. */
-        boolean make(Tree tree, Alphabet itsAlphabet) {
+        boolean make(Tree tree, Alphabet alphabet) {
             program.write(tree);
-            alphabet = itsAlphabet;
             width = Math.min(CLASS_ROOM, alphabet.count);
             numberPositions();
             for (int i = 0; i < positionCount; i++) {
@@ -2997,7 +3022,7 @@ public final class PatternWorkshop {
         /** The positions that may take the next sign from an instruction on, and whether a text may end. */
         private long reach(int begin) {
             long reached = 0;
-            Arrays.fill(seen, false);
+            stamp++;
             stackCount = 0;
             push(begin);
             for (int i = 0; i < stack.length && stackCount > 0 && stackCount <= stack.length; i++) {
@@ -3009,7 +3034,7 @@ public final class PatternWorkshop {
                 } else if (kind == Program.END) {
                     reached |= ENDS;
                 } else {
-                    push(program.otherOf(pc));
+                    push(kind == Program.SPLIT ? program.otherOf(pc) : NONE);
                     push(program.nextOf(pc));
                 }
             }
@@ -3017,8 +3042,8 @@ public final class PatternWorkshop {
         }
 
         private void push(int pc) {
-            if (pc >= 0 && pc < PROGRAM_ROOM && !seen[pc] && stackCount >= 0 && stackCount < stack.length) {
-                seen[pc] = true;
+            if (pc >= 0 && pc < PROGRAM_ROOM && seen[pc] != stamp && stackCount >= 0 && stackCount < stack.length) {
+                seen[pc] = stamp;
                 stack[stackCount] = pc;
                 stackCount++;
             }
@@ -3070,7 +3095,7 @@ public final class PatternWorkshop {
             return known ? goes[state * CLASS_ROOM + signClass] : 0;
         }
 
-        int longestBeginning(Row subject, int from) {
+        int longestBeginning(Alphabet alphabet, Row subject, int from) {
             markLive();
             if (!live[0]) {
                 return NONE;
@@ -3166,25 +3191,25 @@ public final class PatternWorkshop {
         private static final int PAIR_ROOM = STATE_ROOM * STATE_ROOM;
 
         final Alphabet alphabet = new Alphabet();
-        final Table one;
-        private final Table other;
+        final Table one = new Table();
+        private final Table other = new Table();
         boolean onlyInOne;
         boolean onlyInOther;
-        private final boolean[] met = new boolean[PAIR_ROOM];
+        private final int[] met = new int[PAIR_ROOM];
+        private int stamp;
         private final int[] pairs = new int[PAIR_ROOM];
         private final int[] cameFrom = new int[PAIR_ROOM];
         private final int[] cameBy = new int[PAIR_ROOM];
         private int pairCount;
         private int parted;
 
-        Sets(Tree someTree) {
-            one = new Table(someTree, alphabet);
-            other = new Table(someTree, alphabet);
-        }
-
         boolean make(Tree tree, Tree otherTree) {
             alphabet.gather(tree, otherTree);
             return one.make(tree, alphabet) && (otherTree == null || other.make(otherTree, alphabet));
+        }
+
+        int longestBeginning(Row subject, int from) {
+            return one.longestBeginning(alphabet, subject, from);
         }
 
         /** Shorter texts come first, and of those of one length the lesser, for the signs are tried in order. */
@@ -3192,7 +3217,7 @@ public final class PatternWorkshop {
             onlyInOne = false;
             onlyInOther = false;
             parted = NONE;
-            Arrays.fill(met, false);
+            stamp++;
             pairCount = 0;
             meet(0, NONE, 0);
             for (int i = 0; i < pairCount && i < PAIR_ROOM; i++) {
@@ -3214,10 +3239,10 @@ public final class PatternWorkshop {
         }
 
         private void meet(int pair, int from, int sign) {
-            if (pair < 0 || pair >= PAIR_ROOM || met[pair] || pairCount >= PAIR_ROOM) {
+            if (pair < 0 || pair >= PAIR_ROOM || met[pair] == stamp || pairCount >= PAIR_ROOM) {
                 return;
             }
-            met[pair] = true;
+            met[pair] = stamp;
             pairs[pairCount] = pair;
             cameFrom[pairCount] = from;
             cameBy[pairCount] = sign;
