@@ -77,9 +77,55 @@ public final class AgreementTest {
         return below(3) > 0 ? any("a", "b", "a", "b", "c", ":") : SEEDS[below(SEEDS.length)];
     }
 
+    /** Texts near the limits. */
+    private String large() {
+        int n = below(25);
+        switch (below(12)) {
+            case 0:
+                return any("\\w", "\\d", "ab", "a*", "\\x0100", "[a-c]").repeat(n == 0 ? 1 : 200 / n);
+            case 1:
+                return any("a", ".", "(#y)a", "|").repeat(90 + n);
+            case 2:
+                return any("(", "(:", "(=", "(%", "(@a", "(*").repeat(below(12)) + "a" + any("", "(#x)", "()", "b*") + ")".repeat(below(12));
+            case 3:
+                return any("()", "(a)", "(a|b)?").repeat(below(12));
+            case 4:
+                return "(:".repeat(4) + choice(1) + any("){20}", "){3}", "){2,}", "){4}", ")*").repeat(4);
+            case 5:
+                return "(" + "|".repeat(n) + ")" + any("*", "{3}", "{2,}", "") + row(1);
+            case 6:
+                return "[" + any("^", "") + set() + "]" + row(1);
+            case 7:
+                return "(%[" + any("^", "") + set() + "]" + row(1) + ")";
+            case 8:
+                return any("(:a|b)*a(:a|b){", "a{", "(:ab?){") + n + "}";
+            case 9:
+                return "(:" + any("a??", "b*?", "a?b??").repeat(below(5)) + "){" + below(12) + "}" + row(1);
+            case 10:
+                return choice(3) + "|" + choice(3);
+            default:
+                return "(@a" + choice(1) + ")\\@a" + row(2) + "\\1";
+        }
+    }
+
+    private String set() {
+        StringBuilder s = new StringBuilder();
+        for (int i = below(9); i >= 0; i--) {
+            s.append(member());
+            if (below(3) == 0) {
+                s.append('-').append(member());
+            }
+        }
+        return s.toString();
+    }
+
+    private String member() {
+        return any("a", "b", "e", "z", "A", "M", "Z", "0", "9", "_", "@", " ", "\\-", "\\]", "\\\\", "\\^", "\\@", "\\x0000", "\\xffff", "\\x005b", "\\x0080", "k");
+    }
+
     private String text() {
         captures = 0;
-        StringBuilder s = new StringBuilder(choice(below(4)));
+        StringBuilder s = new StringBuilder(below(4) == 0 ? large() : choice(below(4)));
         if (below(5) == 0) {
             String signs = "\\|*+?{}()[].^$abx019,:=!<~%@#- ^A";
             for (int n = 1 + below(3); n > 0; n--) {
@@ -97,6 +143,11 @@ public final class AgreementTest {
     // ---- one run
 
     private void go(long seed) {
+        for (int i = 0; seed % 4 != 0 && i < 3; i++) {
+            feed(text());
+            due("pattern(" + i + ")", x.pattern(i), m.pattern(i));
+            put(i, subjectText());
+        }
         for (int i = 0; i < 120; i++) {
             int before = wrong;
             act();
@@ -192,7 +243,7 @@ public final class AgreementTest {
                 }
                 break;
             case 6: case 7:
-                if (below(2) == 0) {
+                if (below(5) > 0) {
                     due("drop(" + subject + ")", x.drop(subject), m.drop(subject));
                 }
                 put(subject, subjectText());
