@@ -253,7 +253,7 @@ public final class PatternWorkshop {
         if (refusal != 0) {
             return refusal;
         }
-        int answer = search(tree, row, from, machine, steps);
+        int answer = search(tree, row, from, machine, steps, false);
         if (answer == MORE) {
             openSlot = slot;
             openSubject = subject;
@@ -308,7 +308,7 @@ public final class PatternWorkshop {
             return OUTSIDE;
         }
         int refusal = refusalByMachine(tree, machine);
-        return refusal != 0 ? refusal : keepSpans(searchWhole(tree, row, machine));
+        return refusal != 0 ? refusal : keepSpans(search(tree, row, 0, machine, STEP_ROOM, true));
     }
 
     public int all(int slot, int subject, int machine) {
@@ -671,26 +671,14 @@ public final class PatternWorkshop {
         }
     }
 
-    private int search(Tree tree, Row subject, int from, int machine, int steps) {
+    private int search(Tree tree, Row subject, int from, int machine, int steps, boolean wholeOnly) {
         endSearch();
         latestSteps = 0;
         if (machine != GOING_BACK) {
-            return parallel.run(tree, subject, from, false, spans) ? 1 : 0;
+            return parallel.run(tree, subject, from, wholeOnly, spans) ? 1 : 0;
         }
-        goingBack.begin(tree, subject, from, false);
+        goingBack.begin(tree, subject, from, wholeOnly);
         int answer = goingBack.proceed(steps, spans);
-        latestSteps = goingBack.steps;
-        return answer;
-    }
-
-    private int searchWhole(Tree tree, Row subject, int machine) {
-        endSearch();
-        latestSteps = 0;
-        if (machine != GOING_BACK) {
-            return parallel.run(tree, subject, 0, true, spans) ? 1 : 0;
-        }
-        goingBack.begin(tree, subject, 0, true);
-        int answer = goingBack.proceed(STEP_ROOM, spans);
         latestSteps = goingBack.steps;
         return answer;
     }
@@ -715,7 +703,7 @@ public final class PatternWorkshop {
         int copied = 0;
         int from = 0;
         while (from <= subject.count) {
-            int answer = search(tree, subject, from, machine, STEP_ROOM);
+            int answer = search(tree, subject, from, machine, STEP_ROOM, false);
             if (answer == SPENT) {
                 return SPENT;
             }
@@ -809,7 +797,7 @@ public final class PatternWorkshop {
             if (!isTold(bits, slot)) {
                 continue;
             }
-            int answer = search(patterns[slot], subject, from, machine, STEP_ROOM);
+            int answer = search(patterns[slot], subject, from, machine, STEP_ROOM, false);
             if (answer == SPENT) {
                 return SPENT;
             }
