@@ -7,6 +7,7 @@ public final class FindingTest {
 
     public static void main(String[] args) {
         findsByAll();
+        tellsWordSigns();
         findsByGoingBack();
         countsSteps();
         standsStillAndGoesOn();
@@ -83,6 +84,29 @@ public final class FindingTest {
             Kit.due("\\B of nothing", find(kit, "\\B", "", machine), "0-0");
             Kit.due("\\b of nothing", find(kit, "\\b", "", machine), "0");
             Kit.due("an edge within loops", find(kit, "(a*?\\B)+", "baaab", machine), "1-4 3-4");
+        }
+    }
+
+    private static void tellsWordSigns() {
+        Kit kit = new Kit();
+        for (int machine = 0; machine < 2; machine++) {
+            for (char c : "azAZ09_mM5".toCharArray()) {
+                Kit.due("\\b ahead of " + c, find(kit, "\\b", String.valueOf(c), machine), "0-0");
+                Kit.due("\\w of " + c, find(kit, "\\w", String.valueOf(c), machine), "0-1");
+            }
+            for (char c : "@[`{/:^\u0000\u007f\u00e9\u212a\uffff".toCharArray()) {
+                Kit.due("\\b ahead of " + (int) c, find(kit, "\\b", String.valueOf(c), machine), "0");
+                Kit.due("\\w of " + (int) c, find(kit, "\\w", String.valueOf(c), machine), "0");
+            }
+        }
+        String small = "azmk";
+        for (char c : small.toCharArray()) {
+            finds("(%" + c + ")", String.valueOf((char) (c - 32)), "0-1");
+            finds("(%" + (char) (c - 32) + ")", String.valueOf(c), "0-1");
+            goesBack("(" + c + ")(%\\1)", c + "" + (char) (c - 32), "0-2 0-1");
+        }
+        for (String pair : new String[] {"@`", "`@", "[{", "{[", "k\u212a", "0\u0010"}) {
+            goesBack("(.)(%\\1)", pair, "0");
         }
     }
 

@@ -106,6 +106,10 @@ public final class SetsTest {
         parting("a\\xffff", "b", "b");
         parting("aa|b.", "aa", "b\u0000");
         parting("(%b)", "b", "B");
+        parting("a", "a|\\xffff", "\uffff");
+        parting("[\\x0000-\\xfffe]", "[\\x0000-\\xffff]", "\uffff");
+        parting("[\\x0001-\\xffff]", "[\\x0000-\\xffff]", "\u0000");
+        parting("(%[^Y-b])", "[^A-BY-by]", "z");
         parting("(:aa)*", "(:aaa)*", "aa");
         parting("(:a|b)*", "(:a|b){0,3}", "aaaa");
         parting("a*b", "a{0,19}b", "a".repeat(20) + "b");
