@@ -477,6 +477,16 @@ public final class FindingEdgesTest {
         }
         Edges.refused("a slot without a pattern", UNKNOWN, 2, x -> x.first(16, 2, -1, 3));
         Edges.refused("one of all", UNKNOWN, 2, x -> x.first(63, 0, 0, 0));
+        for (int slot = 0; slot < 6; slot++) {
+            Kit kit = new Kit().subject(0, "");
+            for (int other = 0; other < 6; other++) {
+                kit.pattern(other, "");
+            }
+            kit.x.forget(slot);
+            Edges.due("slot " + slot + " alone", kit.x.first(1 << slot, 0, 0, 0), UNKNOWN);
+            Edges.due("slot " + slot + " and others", kit.x.first(63, 0, 0, 1), UNKNOWN);
+            Edges.due("others", kit.x.first(63 & ~(1 << slot), 0, 0, 2), slot == 0 ? 1 : 0);
+        }
         for (int subject : NO_SUBJECTS) {
             Edges.refused("subject " + subject, UNKNOWN, LEFT, x -> x.first(1, subject, -1, 3));
         }
@@ -516,6 +526,17 @@ public final class FindingEdgesTest {
         prefix("a*", "a".repeat(100), 99, 1);
         prefix("", "a", 0, 0);
         prefix("a{20}b|a{5}", "a".repeat(30), 0, 20);
+        prefix(".*", "ab", 0, 2);
+        prefix("[\\x0000-\\xffff]*", "ab", 1, 1);
+        prefix("\\x0000", "\u0000\u0000", 0, 1);
+        prefix("\\xffff", "\uffff\uffff", 0, 1);
+        String[] sets = {"A", "Z", "a", "z", "[A-C]", "[X-Z]", "[a-c]", "[x-z]", "[@-A]", "[Z-\\[]", "[`-a]", "[z-{]", "[^A]", "[^a-c]"};
+        String[] taken = {"Aa", "Zz", "Aa", "Zz", "ABCabc", "XYZxyz", "ABCabc", "XYZxyz", "@Aa", "Zz[", "`Aa", "Zz{", "@BCDXYZ[`bcdxyz{\n", "@DXYZ[`dxyz{\n"};
+        for (int i = 0; i < sets.length; i++) {
+            for (char c : "@ABCDXYZ[`abcdxyz{\n".toCharArray()) {
+                prefix("(%" + sets[i] + ")", String.valueOf(c), 0, taken[i].indexOf(c) < 0 ? 0 : 1);
+            }
+        }
         prefix("a|b[^\\x0000-\\xffff]", "b", 0, 0);
         Edges.says(23, "NONE: THE SET is empty.");
         prefix("[^\\x0000-\\xffff]", "", 0, NONE);

@@ -109,10 +109,11 @@ public final class PatternEdgesTest {
         kit.pattern(0, "abc|d").pattern(1, "a").pattern(0, "a(:b|c|d)");
         Edges.due("parts of nodes", kit.x.node(0, 0, 1) + " " + kit.x.node(0, 1, 1) + " " + kit.x.node(0, 2, 1) + " " + kit.x.node(1, 0, 1), "2 0 3 0");
         kit = new Kit();
-        for (int i = 0; i < 60; i++) {
-            kit.pattern(i % 2, "\\w\\w\\w\\w").pattern(i % 2 + 2, "[a-cx]");
+        for (int i = 0; i < 100; i++) {
+            kit.pattern(0, "\\w\\w\\w\\w");
         }
-        Edges.due("sets", kit.x.part(1, 4, 3, true) + " " + kit.x.part(0, 1, 0, false) + " " + kit.x.part(3, 0, 1, true) + " " + kit.x.part(2, 0, 0, true), "122 48 120 99");
+        kit.pattern(1, "[a-cx]");
+        Edges.due("sets", kit.x.part(0, 4, 3, true) + " " + kit.x.part(0, 1, 0, false) + " " + kit.x.part(1, 0, 1, true) + " " + kit.x.part(1, 0, 0, true), "122 48 120 99");
     }
 
     private static void endsSearches() {

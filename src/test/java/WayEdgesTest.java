@@ -7,6 +7,7 @@ public final class WayEdgesTest {
 
     public static void main(String[] args) {
         hasPlaces();
+        leavesCaptures();
         takesSigns();
         foldsCases();
         asksEdges();
@@ -19,6 +20,7 @@ public final class WayEdgesTest {
         countsSteps();
         findsFromPlaces();
         isSpentByTheNext();
+        keepsManyChoices();
         refusesKinds();
         refusesTheLarge();
         measures();
@@ -60,6 +62,16 @@ public final class WayEdgesTest {
         finds("(.)", "a".repeat(100), 99, "99-100 99-100");
         finds("()", "a".repeat(100), 100, "100-100 100-100");
         finds("(.*)", "a".repeat(100), 0, "0-100 0-100");
+    }
+
+    private static void leavesCaptures() {
+        Edges.says("and leaves captures (a begin and an end each, or none); all are none at first.");
+        finds("(a)|b", "b", "0-1 .");
+        finds("(a)b|.c", "aac", "1-3 .");
+        finds("(:(a)b|a)*", "aab", "0-3 1-2");
+        finds("(:(a)b|a)*c", "abaac", "0-5 0-1");
+        finds("(:(a)b|a)+", "aac", "0-2 .");
+        finds("()", "", "0-0 0-0");
     }
 
     private static void takesSigns() {
@@ -204,6 +216,13 @@ public final class WayEdgesTest {
         finds("(a*?)*?$", "aa", "0-2 1-2");
         finds("(|a)*?$", "aa", "0-2 1-2");
         finds("(:a?\\b)*", "a", "0-1");
+        finds("()*a", "a", "0-1 .");
+        finds("()+a*?", "a", "0-0 0-0");
+        finds("(a*?)*", "aa", "0-2 1-2");
+        finds("(a*?){2,}b", "aab", "0-3 1-2");
+        finds("(:(:a*?b*?)*?)*c", "abc", "0-3");
+        finds("(:()*)*a", "a", "0-1 .");
+        finds("(:(a|b*?)*)*c", "abbc", "0-4 2-3");
         Edges.says("Cutting: the first way of the same loop greedy.");
         finds("a*+", "aaa", "0-3");
         finds("a*+a", "aaa", "0");
@@ -212,6 +231,8 @@ public final class WayEdgesTest {
         finds("(:a|ab)*+b", "ab", "0-2");
         finds("(:a|ab)*+c", "abc", "2-3");
         finds("a{0}+", "a", "0-0");
+        finds("(:a|ab)c*+d", "abcd", "0-4");
+        finds("(:a|ab)(:c|)*+d", "abcd", "0-4");
         finds("(:a??){2}+a", "a", "0-1");
     }
 
@@ -223,6 +244,7 @@ public final class WayEdgesTest {
         finds("(*)a", "a", "0-1");
         finds("(*(a)|b)+", "ab", "0-2 0-1");
         finds("(*b)", "a", "0");
+        finds("(:a|ab)(*c|)d", "abcd", "0-4");
         finds("(%a|ab)c", "ABc", "0-3");
     }
 
@@ -232,6 +254,7 @@ public final class WayEdgesTest {
         finds("(=(ab|a))\\1c", "abc", "0-3 0-2");
         finds("(=)$", "", "0-0");
         finds("a(=$)", "aa", "1-2");
+        finds("(:a|ab)(=c|)c", "abc", "0-3");
         Edges.says("<: likewise the first way that ends here, of what it holds from this PLACE, then from the one ahead of it, and so on down to 0.");
         finds("(<(a*))b", "aab", "2-3 2-2");
         finds("(<(a+))b", "aab", "2-3 1-2");
@@ -354,6 +377,18 @@ public final class WayEdgesTest {
             Edges.due(text + " by " + machine, answer < 0 ? answer : 0, due[machine]);
         }
         Edges.due("table of " + text, Math.min(kit.x.table(0), 0), two);
+    }
+
+    private static void keepsManyChoices() {
+        Edges.says("0 GOING BACK takes all patterns, goes through the ways in that order, one by one, and counts STEPS;");
+        // 1200 choices are kept without a step each, and gone back to by two.
+        Kit kit = new Kit().pattern(0, "(a)??(:(:" + "b??".repeat(30) + "){20}){2}$").subject(0, "a");
+        Edges.due("1200 choices", kit.x.find(0, 0, 0, 0, 3000) + " " + kit.spans() + " " + kit.x.steps(), "1 0-1 0-1 " + (43 + 2400 + 2 + 43));
+        // What is begun behind 2526 turns is undone alone.
+        kit = new Kit().pattern(0, "(:(:(:){20}){20}){6}(:(a)x|a)").subject(0, "ay");
+        Edges.due("2526 turns", kit.x.find(0, 0, 0, 0, 3000) + " " + kit.spans() + " " + kit.x.steps(), "1 0-1 . " + (2526 + 4));
+        kit = new Kit().pattern(0, "(:(:(:(:)(:)(:)){20}){20}){6}(:(a)x|a)").subject(0, "ay");
+        Edges.due("the same once more", kit.x.find(0, 0, 0, 0, 3000) + " " + kit.spans() + " " + kit.x.steps(), "1 0-1 . " + (2526 + 4));
     }
 
     private static void refusesKinds() {
