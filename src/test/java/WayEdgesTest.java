@@ -221,6 +221,9 @@ public final class WayEdgesTest {
         finds("(a*?)*", "aa", "0-2 1-2");
         finds("(a*?){2,}b", "aab", "0-3 1-2");
         finds("(:(:a*?b*?)*?)*c", "abc", "0-3");
+        finds("(:".repeat(9) + "a*" + ")*".repeat(9), "aa", "0-2");
+        finds("(:".repeat(8) + "(a*?" + ")*".repeat(9), "aab", "0-2 1-2");
+        finds("(:".repeat(8) + "(|a" + ")*?".repeat(9) + "b", "ab", "0-2 0-1");
         finds("(:()*)*a", "a", "0-1 .");
         finds("(:(a|b*?)*)*c", "abbc", "0-4 2-3");
         Edges.says("Cutting: the first way of the same loop greedy.");
